@@ -403,7 +403,7 @@ public final class Roomtalk {
             throw new IndexOutOfBoundsException("no such word");
         }
         checkNumber(what, 0, WORD_FACTS - 1);
-        return what == 8 ? actAt(word).age : view.wordFact(one, what);
+        return view.wordFact(one, what);
     }
 
     public String text(int place, int word) throws IndexOutOfBoundsException {
@@ -1452,6 +1452,7 @@ public final class Roomtalk {
         private final int number;
         private int member;
         private int time;
+        private int age;
         private int answered;
         private int options;
         private int a;
@@ -1474,6 +1475,7 @@ public final class Roomtalk {
             boolean isPoll = act.kind == KIND_POLL;
             member = act.member;
             time = act.time;
+            age = act.age;
             answered = isPoll ? NONE : act.first;
             options = isPoll ? act.first : 0;
             a = act.second;
@@ -1801,6 +1803,7 @@ public final class Roomtalk {
                 case 5: return word.isGone ? 0 : word.signCount();
                 case 6: return answersTo(word);
                 case 7: return allBelow(word);
+                case 8: return word.age;
                 default: return word.options;
             }
         }

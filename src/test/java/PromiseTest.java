@@ -337,6 +337,9 @@ public final class PromiseTest {
         x.carryAll(3);
         Check.same("out", -2, x.leave(3, 0));
         Check.same("in", 5, x.ofRoom(2, 0, 0));
+        Roomtalk y = new Roomtalk();
+        Check.same("leave", 0, y.leave(0, 0));
+        Check.same("one was in ahead of it", "0", y.way(1));
         Check.same("never in", -2, x.leave(8, 0));
         for (int wrong : WRONG_PLACES) {
             Check.fails("leave", INDEX, () -> x.leave(wrong, 0));
@@ -348,6 +351,10 @@ public final class PromiseTest {
 
     private static void promise11Say() {
         Roomtalk x = threeIn();
+        Roomtalk first = new Roomtalk();
+        Check.same("say", 0, word(first, 0, 2));
+        Check.same("say", 1, first.say(0, 0, 0, 3, -1, -1));
+        Check.same("drawn", "0:0:bread / >1:0:boat", first.drawn(0, 0, true));
         Check.same("say", 2, x.say(0, 0, -1, 0, -1, -1));
         Check.same("say", 3, x.say(0, 0, 2, 0, 11, 6));
         Check.same("text", "hey @5 @0", x.text(0, 3));
@@ -407,6 +414,23 @@ public final class PromiseTest {
         y.carryAll(1);
         Check.same("the second is void", "0 1 2!", y.order(0, 0));
         Check.same("void ones do not count", 3, later(y, 5));
+        Check.same("the widest span", "0 1 3 2!", orderOfApart(99));
+        Check.same("out of the widest span", "0 1 3 2", orderOfApart(100));
+    }
+
+    /** The word 3 stands ahead of the word 2 of the same member, and comes so many ticks later. */
+    private static String orderOfApart(int ticks) {
+        Roomtalk x = new Roomtalk();
+        x.slow(0, 0, 1, 100);
+        x.carryAll(1);
+        x.lock(0, 0, true);
+        Check.same("say", 2, word(x, 0, 0));
+        x.tick(ticks);
+        Check.same("say", 3, word(x, 1, 1));
+        x.carryAll(0);
+        x.carryAll(1);
+        Check.same("alike", x.order(0, 0), x.order(1, 0));
+        return x.order(0, 0);
     }
 
     private static int later(Roomtalk x, int ticks) {
