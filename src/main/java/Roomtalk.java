@@ -692,7 +692,6 @@ public final class Roomtalk {
     private void enrol(Act act, ActSet known) {
         Line order = orderOf(act.room);
         int height = 0;
-        act.causes.clear();
         for (int k = 0; k < order.size; k++) {
             Act cause = actAt(order.get(k));
             if (known.has(cause.number)) {
@@ -1286,7 +1285,6 @@ public final class Roomtalk {
 
         void clear() {
             signs.setLength(0);
-            at = 0;
         }
 
         int length() {
@@ -1481,7 +1479,6 @@ public final class Roomtalk {
             a = act.second;
             b = act.third;
             c = act.fourth;
-            depth = 0;
             isThere = true;
             isGone = false;
             isEdited = false;

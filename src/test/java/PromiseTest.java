@@ -16,6 +16,8 @@ public final class PromiseTest {
         promise3Sit();
         promise4Part();
         promise5Rejoin();
+        promise5CausesComeAhead();
+        promise5InByTheOtherHalf();
         promise6Off();
         promise7Carry();
         promise7Waiting();
@@ -26,6 +28,7 @@ public final class PromiseTest {
         promise11Say();
         promise11Bounds();
         promise12Edit();
+        promises12To22Rights();
         promise13Back();
         promise14Mark();
         promise15Pin();
@@ -207,6 +210,42 @@ public final class PromiseTest {
         }
     }
 
+    private static void promise5CausesComeAhead() {
+        Roomtalk x = threeIn();
+        x.sit(1, 1);
+        x.sit(3, 1);
+        x.part();
+        Check.same("enter at half 1", 2, x.enter(6, 0));
+        Check.same("not heard, so not taken along", 0, x.sit(3, 0));
+        word(x, 0, 0);
+        word(x, 0, 1);
+        word(x, 0, 2);
+        Check.same("sit", 0, x.sit(1, 0));
+        Check.same("way", "2 3 4 5", x.way(2));
+        Check.same("carry", 1, x.carry(2, 0, false));
+        Check.same("half 0", 5, x.house(2));
+        Check.same("say", 6, word(x, 2, 3));
+        Check.same("with its cause", 7, x.house(2));
+        Check.same("half 1", 3, x.house(3));
+        Check.same("first the cause, then it", "2 6", x.way(0));
+        Check.same("who is in by the cause catches up ahead of it", "0 1 2 3 4 5 6", x.way(6));
+    }
+
+    private static void promise5InByTheOtherHalf() {
+        Roomtalk x = threeIn();
+        x.sit(3, 1);
+        x.part();
+        Check.same("enter at half 1", 2, x.enter(6, 0));
+        Check.same("sit", 0, x.sit(3, 0));
+        Check.same("bar at half 0", 3, x.bar(0, 0, 2, true));
+        Check.same("sit", 0, x.sit(2, 1));
+        Check.same("say", 4, word(x, 0, 0));
+        Check.same("in by half 0 no more, by half 1 as yet", "3 2", x.way(4));
+        Check.same("rejoin", 3, x.rejoin(false));
+        Check.same("in by what came to half 0", "0 1 2 3 4", x.way(6));
+        Check.same("not in by what came to half 1", "3 2", x.way(4));
+    }
+
     private static void promise6Off() {
         Roomtalk x = threeIn();
         Check.same("off", 0, x.off(2, true));
@@ -355,6 +394,9 @@ public final class PromiseTest {
         Check.same("say", 0, word(first, 0, 2));
         Check.same("say", 1, first.say(0, 0, 0, 3, -1, -1));
         Check.same("drawn", "0:0:bread / >1:0:boat", first.drawn(0, 0, true));
+        Check.same("drawn", "0:0:bread / 1:0:boat", first.drawn(0, 0, false));
+        Check.same("edit", 2, first.edit(0, 0, 4, -1));
+        Check.same("text", "yes", first.text(0, 0));
         Check.same("say", 2, x.say(0, 0, -1, 0, -1, -1));
         Check.same("say", 3, x.say(0, 0, 2, 0, 11, 6));
         Check.same("text", "hey @5 @0", x.text(0, 3));
@@ -414,8 +456,34 @@ public final class PromiseTest {
         y.carryAll(1);
         Check.same("the second is void", "0 1 2!", y.order(0, 0));
         Check.same("void ones do not count", 3, later(y, 5));
+        boundsOfTheWidestSpan();
         Check.same("the widest span", "0 1 3 2!", orderOfApart(99));
         Check.same("out of the widest span", "0 1 3 2", orderOfApart(100));
+    }
+
+    private static void boundsOfTheWidestSpan() {
+        Roomtalk x = threeIn();
+        x.slow(0, 0, 1, 100);
+        Check.same("say", 3, word(x, 0, 0));
+        x.tick(99);
+        Check.same("the last tick of the span", -4, word(x, 0, 0));
+        x.carryAll(2);
+        Check.same("another member", 4, word(x, 2, 0));
+        x.tick(1);
+        Check.same("behind the span", 5, word(x, 0, 0));
+
+        // Two at each side of a word, but no three in one span.
+        Roomtalk y = new Roomtalk();
+        y.slow(0, 0, 2, 100);
+        y.carryAll(1);
+        word(y, 0, 0);
+        y.lock(0, 0, true);
+        y.tick(99);
+        word(y, 0, 1);
+        y.tick(1);
+        word(y, 1, 2);
+        y.carryAll(0);
+        Check.same("two in each span", "0 1 4 2 3", y.order(0, 0));
     }
 
     /** The word 3 stands ahead of the word 2 of the same member, and comes so many ticks later. */
@@ -469,6 +537,27 @@ public final class PromiseTest {
         Check.fails("edit", ARGUMENT, () -> x.edit(0, word, 12, -1));
         Check.fails("edit", ARGUMENT, () -> x.edit(0, 999, 0, -2));
         Check.fails("edit", ARGUMENT, () -> x.edit(0, word, 0, 12));
+    }
+
+    /** Each right alone lets one do what it is for, and nothing else. */
+    private static void promises12To22Rights() {
+        String[] due = {
+            "-3 -3 -3 -3 -3 -3 -3 -3 ", "4 -3 -3 -3 -3 -3 -3 -3 ", "-3 4 -3 -3 -3 -3 -3 -3 ",
+            "-3 -3 4 -3 -3 -3 -3 -3 ", "-3 -3 -3 -3 4 5 6 7 ", "-3 -3 -3 4 -3 -3 -3 -3 "};
+        for (int right = 0; right < 6; right++) {
+            Roomtalk x = threeIn();
+            int word = word(x, 0, 0);
+            x.right(0, 0, 1, right, true);
+            x.carryAll(2);
+            int[] answers = {
+                x.edit(2, word, 1, -1), x.back(2, word), x.pin(2, word, true), x.right(2, 0, 3, 5, true),
+                x.call(2, 0, 3), x.bar(2, 0, 3, false), x.slow(2, 0, 0, 1), x.lock(2, 0, false)};
+            StringBuilder all = new StringBuilder();
+            for (int answer : answers) {
+                all.append(answer).append(' ');
+            }
+            Check.same("right " + right, due[right], all.toString());
+        }
     }
 
     private static void promise13Back() {

@@ -56,6 +56,10 @@ public final class RunsTest {
     }
 
     private void both(String call, Supplier<Object> due, Supplier<Object> got) {
+        if (random.nextInt(3) == 0) {
+            // A question changes nothing: not even what the next one has to look at.
+            x.was(random.nextInt(12), random.nextInt(3), 0);
+        }
         Check.same(name + call, answer(due), answer(got));
     }
 
@@ -98,6 +102,11 @@ public final class RunsTest {
         for (int place = 0; place < 12; place++) {
             int at = place;
             both("carryAll", () -> y.carryAll(at), () -> x.carryAll(at));
+        }
+        for (int k = random.nextInt(9); k > 0; k--) {
+            int member = upTo(6);
+            int right = upTo(6);
+            both("right", () -> y.right(0, 0, member, right, true), () -> x.right(0, 0, member, right, true));
         }
         for (int bot = 4; bot < 6; bot++) {
             for (int k = random.nextInt(4); k > 0; k--) {
