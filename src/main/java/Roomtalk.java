@@ -730,8 +730,8 @@ public final class Roomtalk {
         }
         for (int k = 0; k < PLACES; k++) {
             Place place = placeAt(k);
-            boolean isThere = memberAt(place.member).half == number && half.isIn(act.room, place.member);
-            if (isThere && !place.isOff && !place.knows(act.number)) {
+            boolean isMeant = memberAt(place.member).half == number && half.isIn(act.room, place.member);
+            if (isMeant && !place.isOff && !place.knows(act.number)) {
                 place.way.append(act.number);
             }
         }
@@ -859,6 +859,8 @@ public final class Roomtalk {
             }
         }
     }
+
+    // ---- what is told by the view that was looked at last
 
     private boolean isNotRead(Place place, int act) {
         Word word = view.wordAt(act);
