@@ -17,6 +17,7 @@ public final class PromiseTest {
         promise4Part();
         promise5Rejoin();
         promise5CausesComeAhead();
+        promise5CausesComeByTheHalf();
         promise5InByTheOtherHalf();
         promise6Off();
         promise7Carry();
@@ -229,6 +230,21 @@ public final class PromiseTest {
         Check.same("half 1", 3, x.house(3));
         Check.same("first the cause, then it", "2 6", x.way(0));
         Check.same("who is in by the cause catches up ahead of it", "0 1 2 3 4 5 6", x.way(6));
+    }
+
+    private static void promise5CausesComeByTheHalf() {
+        Roomtalk x = threeIn();
+        Check.same("enter", 2, x.enter(6, 0));
+        hearAll(x);
+        x.sit(2, 1);
+        x.part();
+        Check.same("a word at half 0", 3, word(x, 6, 0));
+        Check.same("not heard, so not taken along", 0, x.sit(1, 1) + x.sit(0, 1));
+        Check.same("heard then", 1, x.carryAll(2));
+        Check.same("bar at half 1, not heard by member 1", 4, x.bar(0, 0, 2, true));
+        Check.same("say, with a cause that half 1 has not", 5, word(x, 2, 1));
+        Check.same("in by what that half has", "3 5", x.way(0));
+        Check.same("not in by it, though by the place that says it", "4", x.way(4));
     }
 
     private static void promise5InByTheOtherHalf() {
