@@ -1,4 +1,5 @@
 import java.util.Objects;
+import java.util.function.Supplier;
 
 /** What the tests of the project share: counts what is as due, and prints what is not. */
 final class Check {
@@ -27,6 +28,20 @@ final class Check {
             got = e.getClass();
         }
         same(what, due, got);
+    }
+
+    /** A call that tells a number and changes nothing. */
+    static void refused(String what, Roomtalk x, int due, Supplier<Integer> call) {
+        String before = State.of(x);
+        same(what, due, call.get());
+        same(what + ": changes nothing", true, before.equals(State.of(x)));
+    }
+
+    /** A call that throws and changes nothing. */
+    static void thrown(String what, Roomtalk x, Class<? extends RuntimeException> due, Runnable call) {
+        String before = State.of(x);
+        fails(what, due, call);
+        same(what + ": changes nothing", true, before.equals(State.of(x)));
     }
 
     static int wrongCount() {

@@ -70,25 +70,6 @@ public final class PromiseTest {
         Check.finish("PromiseTest");
     }
 
-    /** Room 0 with members 0, 1 and 2 in, all of which is heard at all their places: acts 0 and 1. */
-    private static Roomtalk threeIn() {
-        Roomtalk x = new Roomtalk();
-        Check.same("enter", 0, x.enter(2, 0));
-        Check.same("enter", 1, x.enter(4, 0));
-        hearAll(x);
-        return x;
-    }
-
-    private static void hearAll(Roomtalk x) {
-        for (int place = 0; place < 12; place++) {
-            x.carryAll(place);
-        }
-    }
-
-    private static int word(Roomtalk x, int place, int piece) {
-        return x.say(place, 0, -1, piece, -1, -1);
-    }
-
     private static void promise1NewObject() {
         Roomtalk x = new Roomtalk();
         for (int place = 0; place < 12; place++) {
@@ -146,14 +127,14 @@ public final class PromiseTest {
     }
 
     private static void promise3Sit() {
-        Roomtalk x = threeIn();
+        Roomtalk x = Towns.threeIn();
         Check.same("sit", 0, x.sit(1, 1));
         Check.same("sit again", 0, x.sit(1, 1));
         Check.same("half", 1, x.ofPlace(2, 5));
         Check.same("half", 1, x.ofPlace(3, 5));
         Check.same("half", 0, x.ofPlace(4, 5));
         x.part();
-        Check.same("say", 2, word(x, 0, 0));
+        Check.same("say", 2, Towns.word(x, 0, 0));
         Check.same("half 0", 3, x.house(2));
         Check.same("half 1", 2, x.house(3));
         Check.same("way", "", x.way(2));
@@ -163,7 +144,7 @@ public final class PromiseTest {
         Check.same("way", "2", x.way(2));
         Check.same("way", "2", x.way(3));
         Check.same("sit back", 0, x.sit(0, 0));
-        Check.same("say", 3, word(x, 2, 1));
+        Check.same("say", 3, Towns.word(x, 2, 1));
         Check.same("what is on the way alone is not taken along", 0, x.sit(2, 1));
         Check.same("way", "2 3", x.way(4));
         for (int wrong : WRONG_MEMBERS) {
@@ -176,25 +157,25 @@ public final class PromiseTest {
     }
 
     private static void promise4Part() {
-        Roomtalk x = threeIn();
+        Roomtalk x = Towns.threeIn();
         Check.same("part", 1, x.part());
         Check.same("part", 0, x.part());
         Check.same("parted", 1, x.house(4));
-        word(x, 0, 0);
+        Towns.word(x, 0, 0);
         Check.same("half 0", 3, x.house(2));
         Check.same("half 1", 2, x.house(3));
     }
 
     private static void promise5Rejoin() {
         for (int begins = 0; begins < 2; begins++) {
-            Roomtalk x = threeIn();
+            Roomtalk x = Towns.threeIn();
             boolean isSecond = begins == 1;
             Check.same("rejoin", -1, x.rejoin(isSecond));
             x.sit(1, 1);
             x.part();
-            word(x, 0, 0);
-            word(x, 1, 1);
-            word(x, 2, 2);
+            Towns.word(x, 0, 0);
+            Towns.word(x, 1, 1);
+            Towns.word(x, 2, 2);
             Check.same("way", "", x.way(3).replace("4", ""));
             Check.same("rejoin", 3, x.rejoin(isSecond));
             Check.same("rejoin", -1, x.rejoin(isSecond));
@@ -206,26 +187,26 @@ public final class PromiseTest {
             Check.same("by order", "2 3", x.way(2));
             Check.same("by order", "4 2 3", x.way(3));
             Check.same("by order", "2 3 4", x.way(4));
-            hearAll(x);
+            Towns.hearAll(x);
             Check.same("drawn", "2:0:hey / 3:0:rain / 4:1:bread", x.drawn(5, 0, false));
         }
     }
 
     private static void promise5CausesComeAhead() {
-        Roomtalk x = threeIn();
+        Roomtalk x = Towns.threeIn();
         x.sit(1, 1);
         x.sit(3, 1);
         x.part();
         Check.same("enter at half 1", 2, x.enter(6, 0));
         Check.same("not heard, so not taken along", 0, x.sit(3, 0));
-        word(x, 0, 0);
-        word(x, 0, 1);
-        word(x, 0, 2);
+        Towns.word(x, 0, 0);
+        Towns.word(x, 0, 1);
+        Towns.word(x, 0, 2);
         Check.same("sit", 0, x.sit(1, 0));
         Check.same("way", "2 3 4 5", x.way(2));
         Check.same("carry", 1, x.carry(2, 0, false));
         Check.same("half 0", 5, x.house(2));
-        Check.same("say", 6, word(x, 2, 3));
+        Check.same("say", 6, Towns.word(x, 2, 3));
         Check.same("with its cause", 7, x.house(2));
         Check.same("half 1", 3, x.house(3));
         Check.same("first the cause, then it", "2 6", x.way(0));
@@ -233,29 +214,29 @@ public final class PromiseTest {
     }
 
     private static void promise5CausesComeByTheHalf() {
-        Roomtalk x = threeIn();
+        Roomtalk x = Towns.threeIn();
         Check.same("enter", 2, x.enter(6, 0));
-        hearAll(x);
+        Towns.hearAll(x);
         x.sit(2, 1);
         x.part();
-        Check.same("a word at half 0", 3, word(x, 6, 0));
+        Check.same("a word at half 0", 3, Towns.word(x, 6, 0));
         Check.same("not heard, so not taken along", 0, x.sit(1, 1) + x.sit(0, 1));
         Check.same("heard then", 1, x.carryAll(2));
         Check.same("bar at half 1, not heard by member 1", 4, x.bar(0, 0, 2, true));
-        Check.same("say, with a cause that half 1 has not", 5, word(x, 2, 1));
+        Check.same("say, with a cause that half 1 has not", 5, Towns.word(x, 2, 1));
         Check.same("in by what that half has", "3 5", x.way(0));
         Check.same("not in by it, though by the place that says it", "4", x.way(4));
     }
 
     private static void promise5InByTheOtherHalf() {
-        Roomtalk x = threeIn();
+        Roomtalk x = Towns.threeIn();
         x.sit(3, 1);
         x.part();
         Check.same("enter at half 1", 2, x.enter(6, 0));
         Check.same("sit", 0, x.sit(3, 0));
         Check.same("bar at half 0", 3, x.bar(0, 0, 2, true));
         Check.same("sit", 0, x.sit(2, 1));
-        Check.same("say", 4, word(x, 0, 0));
+        Check.same("say", 4, Towns.word(x, 0, 0));
         Check.same("in by half 0 no more, by half 1 as yet", "3 2", x.way(4));
         Check.same("rejoin", 3, x.rejoin(false));
         Check.same("in by what came to half 0", "0 1 2 3 4", x.way(6));
@@ -263,12 +244,12 @@ public final class PromiseTest {
     }
 
     private static void promise6Off() {
-        Roomtalk x = threeIn();
+        Roomtalk x = Towns.threeIn();
         Check.same("off", 0, x.off(2, true));
         Check.same("off", 1, x.off(2, true));
         Check.same("is off", 1, x.ofPlace(2, 4));
-        Check.same("off makes no acts", -1, word(x, 2, 0));
-        Check.same("say", 2, word(x, 0, 0));
+        Check.same("off makes no acts", -1, Towns.word(x, 2, 0));
+        Check.same("say", 2, Towns.word(x, 0, 0));
         Check.same("way", "", x.way(2));
         Check.same("way", "2", x.way(3));
         Check.same("off", 1, x.off(2, false));
@@ -284,9 +265,9 @@ public final class PromiseTest {
     }
 
     private static void promise7Carry() {
-        Roomtalk x = threeIn();
-        word(x, 0, 0);
-        word(x, 0, 1);
+        Roomtalk x = Towns.threeIn();
+        Towns.word(x, 0, 0);
+        Towns.word(x, 0, 1);
         Check.same("way", "2 3", x.way(2));
         Check.fails("carry", INDEX, () -> x.carry(2, -1, false));
         Check.fails("carry", INDEX, () -> x.carry(2, 2, false));
@@ -305,10 +286,10 @@ public final class PromiseTest {
     }
 
     private static void promise7Waiting() {
-        Roomtalk x = threeIn();
-        word(x, 0, 0);
-        word(x, 0, 1);
-        word(x, 0, 2);
+        Roomtalk x = Towns.threeIn();
+        Towns.word(x, 0, 0);
+        Towns.word(x, 0, 1);
+        Towns.word(x, 0, 2);
         Check.same("turned round", 0, x.carry(2, 2, true));
         Check.same("waiting", "4", x.waiting(2));
         Check.same("it waits already", 0, x.carry(2, 2, false));
@@ -322,10 +303,10 @@ public final class PromiseTest {
     }
 
     private static void promise8CarryAll() {
-        Roomtalk x = threeIn();
+        Roomtalk x = Towns.threeIn();
         Check.same("carryAll", 0, x.carryAll(2));
-        word(x, 0, 0);
-        word(x, 0, 1);
+        Towns.word(x, 0, 0);
+        Towns.word(x, 0, 1);
         x.carry(2, 1, true);
         Check.same("the second waited", 2, x.carryAll(2));
         Check.same("doubled", 1, x.ofPlace(2, 3));
@@ -343,9 +324,9 @@ public final class PromiseTest {
         Check.same("way", "0", x.way(2));
         Check.same("way", "0", x.way(3));
         Check.same("way", "", x.way(4));
-        Check.same("not in by what it heard", -2, word(x, 2, 0));
+        Check.same("not in by what it heard", -2, Towns.word(x, 2, 0));
         x.carryAll(2);
-        Check.same("say", 1, word(x, 2, 0));
+        Check.same("say", 1, Towns.word(x, 2, 0));
         Check.same("entered again", 2, x.enter(2, 0));
         Check.same("private", -7, x.enter(2, 2));
         Check.same("the member with its number", 3, x.enter(4, 2));
@@ -365,8 +346,8 @@ public final class PromiseTest {
 
     private static void promise9EnterGoesByTheHalf() {
         Roomtalk x = new Roomtalk();
-        word(x, 0, 0);
-        word(x, 0, 1);
+        Towns.word(x, 0, 0);
+        Towns.word(x, 0, 1);
         Check.same("enter", 2, x.enter(2, 0));
         Check.same("causes", 2, x.ofAct(2, 5));
         Check.same("height", 2, x.ofAct(2, 4));
@@ -382,12 +363,12 @@ public final class PromiseTest {
     }
 
     private static void promise10Leave() {
-        Roomtalk x = threeIn();
+        Roomtalk x = Towns.threeIn();
         Check.same("leave", 2, x.leave(2, 0));
         Check.same("way to the other place, too", "2", x.way(3));
         Check.same("out", -2, x.leave(2, 0));
-        Check.same("not heard there", 3, word(x, 3, 0));
-        Check.same("nothing more comes", 4, word(x, 0, 0));
+        Check.same("not heard there", 3, Towns.word(x, 3, 0));
+        Check.same("nothing more comes", 4, Towns.word(x, 0, 0));
         Check.same("way", "2", x.way(3));
         x.carryAll(3);
         Check.same("out", -2, x.leave(3, 0));
@@ -405,9 +386,9 @@ public final class PromiseTest {
     }
 
     private static void promise11Say() {
-        Roomtalk x = threeIn();
+        Roomtalk x = Towns.threeIn();
         Roomtalk first = new Roomtalk();
-        Check.same("say", 0, word(first, 0, 2));
+        Check.same("say", 0, Towns.word(first, 0, 2));
         Check.same("say", 1, first.say(0, 0, 0, 3, -1, -1));
         Check.same("drawn", "0:0:bread / >1:0:boat", first.drawn(0, 0, true));
         Check.same("drawn", "0:0:bread / 1:0:boat", first.drawn(0, 0, false));
@@ -427,7 +408,7 @@ public final class PromiseTest {
         Check.same("one taken back can be answered", 5, x.say(0, 0, 2, 0, -1, -1));
         Check.same("right", 6, x.right(0, 0, 1, 0, false));
         x.carryAll(2);
-        Check.same("no right", -3, word(x, 2, 0));
+        Check.same("no right", -3, Towns.word(x, 2, 0));
         for (int wrong : WRONG_PLACES) {
             Check.fails("say", INDEX, () -> x.say(wrong, 0, -1, 12, -1, -1));
         }
@@ -445,22 +426,22 @@ public final class PromiseTest {
     }
 
     private static void promise11Bounds() {
-        Roomtalk x = threeIn();
+        Roomtalk x = Towns.threeIn();
         Check.same("slow", 2, x.slow(0, 0, 2, 10));
         x.carryAll(2);
-        Check.same("say", 3, word(x, 0, 0));
+        Check.same("say", 3, Towns.word(x, 0, 0));
         x.tick(9);
-        Check.same("say", 4, word(x, 0, 0));
-        Check.same("two in ten ticks", -4, word(x, 0, 0));
+        Check.same("say", 4, Towns.word(x, 0, 0));
+        Check.same("two in ten ticks", -4, Towns.word(x, 0, 0));
         Check.same("polls, too", -4, x.poll(0, 0, 2));
-        Check.same("of each member", 5, word(x, 2, 0));
+        Check.same("of each member", 5, Towns.word(x, 2, 0));
         x.tick(1);
-        Check.same("the first is out of the span", 6, word(x, 0, 0));
-        Check.same("slow", -4, word(x, 0, 0));
+        Check.same("the first is out of the span", 6, Towns.word(x, 0, 0));
+        Check.same("slow", -4, Towns.word(x, 0, 0));
         Check.same("back", 7, x.back(0, 6));
-        Check.same("taken back ones count", -4, word(x, 0, 0));
+        Check.same("taken back ones count", -4, Towns.word(x, 0, 0));
         Check.same("no bound", 8, x.slow(0, 0, 0, 100));
-        Check.same("say", 9, word(x, 0, 0));
+        Check.same("say", 9, Towns.word(x, 0, 0));
 
         // A word from elsewhere may stand ahead by order, and behind by time.
         Roomtalk y = new Roomtalk();
@@ -478,26 +459,26 @@ public final class PromiseTest {
     }
 
     private static void boundsOfTheWidestSpan() {
-        Roomtalk x = threeIn();
+        Roomtalk x = Towns.threeIn();
         x.slow(0, 0, 1, 100);
-        Check.same("say", 3, word(x, 0, 0));
+        Check.same("say", 3, Towns.word(x, 0, 0));
         x.tick(99);
-        Check.same("the last tick of the span", -4, word(x, 0, 0));
+        Check.same("the last tick of the span", -4, Towns.word(x, 0, 0));
         x.carryAll(2);
-        Check.same("another member", 4, word(x, 2, 0));
+        Check.same("another member", 4, Towns.word(x, 2, 0));
         x.tick(1);
-        Check.same("behind the span", 5, word(x, 0, 0));
+        Check.same("behind the span", 5, Towns.word(x, 0, 0));
 
         // Two at each side of a word, but no three in one span.
         Roomtalk y = new Roomtalk();
         y.slow(0, 0, 2, 100);
         y.carryAll(1);
-        word(y, 0, 0);
+        Towns.word(y, 0, 0);
         y.lock(0, 0, true);
         y.tick(99);
-        word(y, 0, 1);
+        Towns.word(y, 0, 1);
         y.tick(1);
-        word(y, 1, 2);
+        Towns.word(y, 1, 2);
         y.carryAll(0);
         Check.same("two in each span", "0 1 4 2 3", y.order(0, 0));
     }
@@ -508,9 +489,9 @@ public final class PromiseTest {
         x.slow(0, 0, 1, 100);
         x.carryAll(1);
         x.lock(0, 0, true);
-        Check.same("say", 2, word(x, 0, 0));
+        Check.same("say", 2, Towns.word(x, 0, 0));
         x.tick(ticks);
-        Check.same("say", 3, word(x, 1, 1));
+        Check.same("say", 3, Towns.word(x, 1, 1));
         x.carryAll(0);
         x.carryAll(1);
         Check.same("alike", x.order(0, 0), x.order(1, 0));
@@ -519,17 +500,17 @@ public final class PromiseTest {
 
     private static int later(Roomtalk x, int ticks) {
         x.tick(ticks);
-        return word(x, 0, 0);
+        return Towns.word(x, 0, 0);
     }
 
     private static void promise12Edit() {
-        Roomtalk x = threeIn();
+        Roomtalk x = Towns.threeIn();
         int word = x.say(2, 0, -1, 0, 1, 2);
         Check.same("edit", 3, x.edit(2, word, 3, 7));
         Check.same("text", "boat @1", x.text(2, word));
         Check.same("edited", 1, x.ofWord(2, word, 3));
         Check.same("not heard", -5, x.edit(0, word, 0, -1));
-        hearAll(x);
+        Towns.hearAll(x);
         Check.same("words of others", 4, x.edit(0, word, 4, -1));
         Check.same("text", "yes", x.text(0, word));
         Check.same("no right", -3, x.edit(4, word, 0, -1));
@@ -561,8 +542,8 @@ public final class PromiseTest {
             "-3 -3 -3 -3 -3 -3 -3 -3 ", "4 -3 -3 -3 -3 -3 -3 -3 ", "-3 4 -3 -3 -3 -3 -3 -3 ",
             "-3 -3 4 -3 -3 -3 -3 -3 ", "-3 -3 -3 -3 4 5 6 7 ", "-3 -3 -3 4 -3 -3 -3 -3 "};
         for (int right = 0; right < 6; right++) {
-            Roomtalk x = threeIn();
-            int word = word(x, 0, 0);
+            Roomtalk x = Towns.threeIn();
+            int word = Towns.word(x, 0, 0);
             x.right(0, 0, 1, right, true);
             x.carryAll(2);
             int[] answers = {
@@ -577,17 +558,17 @@ public final class PromiseTest {
     }
 
     private static void promise13Back() {
-        Roomtalk x = threeIn();
-        int word = word(x, 2, 0);
+        Roomtalk x = Towns.threeIn();
+        int word = Towns.word(x, 2, 0);
         Check.same("not heard", -5, x.back(0, word));
-        hearAll(x);
+        Towns.hearAll(x);
         Check.same("no right", -3, x.back(4, word));
         Check.same("words of others", 3, x.back(0, word));
         Check.same("text", "-", x.text(0, word));
         Check.same("gone", -6, x.back(0, word));
         Check.same("without the right, this comes first", -3, x.back(4, word));
         Check.same("not heard there", 4, x.back(2, word));
-        hearAll(x);
+        Towns.hearAll(x);
         Check.same("the second is void", "0 1 2 3 4!", x.order(4, 0));
         Check.same("no word", -5, x.back(0, 3));
         Check.same("no act", -5, x.back(0, -1));
@@ -598,14 +579,14 @@ public final class PromiseTest {
     }
 
     private static void promise14Mark() {
-        Roomtalk x = threeIn();
-        int word = word(x, 2, 0);
+        Roomtalk x = Towns.threeIn();
+        int word = Towns.word(x, 2, 0);
         Check.same("not heard", -5, x.mark(0, word, 1, true));
-        hearAll(x);
+        Towns.hearAll(x);
         Check.same("mark", 3, x.mark(0, word, 4, true));
         Check.same("mark", 4, x.mark(0, word, 4, true));
         Check.same("mark", 5, x.mark(0, word, 1, true));
-        hearAll(x);
+        Towns.hearAll(x);
         Check.same("mark", 6, x.mark(4, word, 4, true));
         Check.same("drawn", "2:1:hey+1x1+4x2", x.drawn(4, 0, false));
         Check.same("signs", 3, x.ofWord(4, word, 5));
@@ -630,9 +611,9 @@ public final class PromiseTest {
     }
 
     private static void promise15Pin() {
-        Roomtalk x = threeIn();
-        int word = word(x, 2, 0);
-        hearAll(x);
+        Roomtalk x = Towns.threeIn();
+        int word = Towns.word(x, 2, 0);
+        Towns.hearAll(x);
         Check.same("no right, also of one's own", -3, x.pin(2, word, true));
         Check.same("pin", 3, x.pin(0, word, true));
         Check.same("drawn", "2:1:hey^", x.drawn(0, 0, true));
@@ -650,7 +631,7 @@ public final class PromiseTest {
     }
 
     private static void promise16Poll() {
-        Roomtalk x = threeIn();
+        Roomtalk x = Towns.threeIn();
         Check.same("poll", 2, x.poll(0, 0, 2));
         Check.same("poll", 3, x.poll(0, 0, 4));
         Check.same("drawn", "2:0:poll2 / 3:0:poll4", x.drawn(0, 0, false));
@@ -670,17 +651,17 @@ public final class PromiseTest {
     }
 
     private static void promise17Vote() {
-        Roomtalk x = threeIn();
+        Roomtalk x = Towns.threeIn();
         x.poll(0, 0, 3);
-        hearAll(x);
+        Towns.hearAll(x);
         Check.same("vote", 3, x.vote(0, 2, 0));
         Check.same("vote", 4, x.vote(2, 2, 1));
         Check.same("vote", 5, x.vote(4, 2, 1));
         Check.same("vote", 6, x.vote(0, 2, 2));
-        hearAll(x);
+        Towns.hearAll(x);
         Check.same("the last one counts", "0 2 1", x.tally(3, 2));
         Check.same("no such option", -5, x.vote(0, 2, 3));
-        Check.same("say", 7, word(x, 0, 0));
+        Check.same("say", 7, Towns.word(x, 0, 0));
         Check.same("no poll", -5, x.vote(0, 7, 0));
         Check.same("no act", -5, x.vote(0, 8, 0));
         Check.same("back", 8, x.back(0, 2));
@@ -696,7 +677,7 @@ public final class PromiseTest {
     }
 
     private static void promise18Right() {
-        Roomtalk x = threeIn();
+        Roomtalk x = Towns.threeIn();
         Check.same("right", 2, x.right(0, 0, 1, 5, true));
         Check.same("rights", 33, x.rights(0, 0, 1));
         x.carryAll(2);
@@ -724,7 +705,7 @@ public final class PromiseTest {
     }
 
     private static void promise19Call() {
-        Roomtalk x = threeIn();
+        Roomtalk x = Towns.threeIn();
         Check.same("call", 2, x.call(0, 0, 5));
         Check.same("called", 32, x.ofRoom(0, 0, 1));
         Check.same("no right", -3, x.call(2, 0, 5));
@@ -741,13 +722,13 @@ public final class PromiseTest {
     }
 
     private static void promise20Bar() {
-        Roomtalk x = threeIn();
+        Roomtalk x = Towns.threeIn();
         Check.same("no right", -3, x.bar(2, 0, 0, true));
         Check.same("bar", 2, x.bar(0, 0, 1, true));
         Check.same("barred", 2, x.ofRoom(0, 0, 2));
         Check.same("not in any more", 5, x.ofRoom(0, 0, 0));
         Check.same("it comes to who was in ahead of it", "2", x.way(2));
-        Check.same("say", 3, word(x, 0, 0));
+        Check.same("say", 3, Towns.word(x, 0, 0));
         Check.same("but no more", "2", x.way(2));
         Check.same("bar", 4, x.bar(0, 0, 1, false));
         Check.same("barred", 0, x.ofRoom(0, 0, 2));
@@ -767,7 +748,7 @@ public final class PromiseTest {
     }
 
     private static void promise21Slow() {
-        Roomtalk x = threeIn();
+        Roomtalk x = Towns.threeIn();
         Check.same("slow", 2, x.slow(0, 0, 5, 100));
         Check.same("many", 5, x.ofRoom(0, 0, 4));
         Check.same("span", 100, x.ofRoom(0, 0, 5));
@@ -790,7 +771,7 @@ public final class PromiseTest {
     }
 
     private static void promise22Lock() {
-        Roomtalk x = threeIn();
+        Roomtalk x = Towns.threeIn();
         Check.same("lock", 2, x.lock(0, 0, true));
         Check.same("private", 1, x.ofRoom(0, 0, 3));
         Check.same("shut", -7, x.enter(6, 0));
@@ -826,7 +807,7 @@ public final class PromiseTest {
         Check.same("bar", 0, x.bar(0, 0, 3, true));
         Check.same("nobody is in there", "-7 -2 -5 -5 -5 -5 -5 -2 -5 -2 -2 -2 -2 -2 ", allActs(x, 6, 999));
         for (int k = 1; k < 120; k++) {
-            Check.same("say", k, word(x, 0, 0));
+            Check.same("say", k, Towns.word(x, 0, 0));
         }
         Check.same("acts", 120, x.house(1));
         Check.same("full", "-8 ".repeat(14), allActs(x, 0, 5));
@@ -839,12 +820,12 @@ public final class PromiseTest {
     }
 
     private static void promises9To22Order() {
-        Roomtalk x = threeIn();
-        int word = word(x, 0, 0);
-        hearAll(x);
+        Roomtalk x = Towns.threeIn();
+        int word = Towns.word(x, 0, 0);
+        Towns.hearAll(x);
         x.back(0, word);
         x.leave(2, 0);
-        hearAll(x);
+        Towns.hearAll(x);
         Check.same("out ahead of no right and gone", -2, x.edit(2, word, 0, -1));
         Check.same("out ahead of no right", -2, x.pin(2, word, true));
         Check.same("no right ahead of gone", -3, x.edit(4, word, 0, -1));
@@ -852,21 +833,21 @@ public final class PromiseTest {
         Check.same("no right ahead of gone", -3, x.back(4, word));
         Check.same("gone", -6, x.mark(4, word, 0, true));
         x.slow(0, 0, 1, 100);
-        word(x, 0, 0);
+        Towns.word(x, 0, 0);
         x.right(0, 0, 0, 0, false);
-        Check.same("no right ahead of slow", -3, word(x, 0, 0));
+        Check.same("no right ahead of slow", -3, Towns.word(x, 0, 0));
         Check.same("unheard ahead of all else", -5, x.say(2, 0, 77, 0, -1, -1));
     }
 
     private static void promise23Keyword() {
-        Roomtalk x = threeIn();
+        Roomtalk x = Towns.threeIn();
         Check.same("keyword", -1, x.keyword(1, 3));
         Check.same("keyword", 3, x.keyword(1, 11));
         Check.same("keyword", 11, x.keyword(1, -1));
         Check.same("keyword", -1, x.keyword(1, 2));
         x.say(0, 0, -1, 0, 2, -1);
-        word(x, 0, 3);
-        hearAll(x);
+        Towns.word(x, 0, 3);
+        Towns.hearAll(x);
         Check.same("notices", "2", x.notices(1));
         Check.same("notices", "", x.notices(2));
         for (int wrong : WRONG_MEMBERS) {
@@ -877,22 +858,14 @@ public final class PromiseTest {
         }
     }
 
-    /** Room 0 with the bot 4 in, heard at all places. */
-    private static Roomtalk botIn() {
-        Roomtalk x = new Roomtalk();
-        x.enter(8, 0);
-        hearAll(x);
-        return x;
-    }
-
     private static void promise24Rule() {
-        Roomtalk x = botIn();
+        Roomtalk x = Towns.botIn();
         Check.same("rule", 1, x.rule(4, 1, 4));
         Check.same("rule", 2, x.rule(4, 2, 5));
         Check.same("rule", 1, x.rule(5, 0, 0));
         x.say(0, 0, -1, 2, 1, -1);
-        word(x, 0, 3);
-        word(x, 0, 2);
+        Towns.word(x, 0, 3);
+        Towns.word(x, 0, 2);
         Check.same("its second place answers nothing", 3, x.carryAll(9));
         Check.same("acts", 4, x.house(1));
         Check.same("what it says is left aside", 3, x.carryAll(8));
@@ -901,7 +874,7 @@ public final class PromiseTest {
         Check.same("answered", "1 3", x.ofAct(4, 6) + " " + x.ofAct(5, 6));
         Check.same("words of bots", 2, x.house(6));
         Check.same("not twice", 0, x.carryAll(8));
-        word(x, 0, 1);
+        Towns.word(x, 0, 1);
         x.off(8, true);
         Check.same("heard", 1, x.carryAll(8));
         Check.same("it comes to nothing as it is off", 2, x.house(6));
@@ -921,10 +894,10 @@ public final class PromiseTest {
         Roomtalk x = new Roomtalk();
         x.enter(8, 0);
         x.enter(10, 0);
-        hearAll(x);
+        Towns.hearAll(x);
         x.rule(4, 1, 2);
         x.rule(5, 2, 1);
-        word(x, 0, 1);
+        Towns.word(x, 0, 1);
         for (int k = 0; k < 9; k++) {
             x.carryAll(8);
             x.carryAll(10);
@@ -936,19 +909,19 @@ public final class PromiseTest {
     }
 
     private static void promise25Read() {
-        Roomtalk x = threeIn();
-        word(x, 0, 0);
-        word(x, 2, 1);
-        hearAll(x);
+        Roomtalk x = Towns.threeIn();
+        Towns.word(x, 0, 0);
+        Towns.word(x, 2, 1);
+        Towns.hearAll(x);
         Check.same("read", 2, x.read(4, 0));
         Check.same("read", 0, x.read(4, 0));
         Check.same("those of others alone", 1, x.read(0, 0));
         Check.same("of a place", 2, x.read(5, 0));
-        word(x, 0, 3);
-        word(x, 0, 4);
-        int gone = word(x, 0, 5);
+        Towns.word(x, 0, 3);
+        Towns.word(x, 0, 4);
+        int gone = Towns.word(x, 0, 5);
         x.back(0, gone);
-        hearAll(x);
+        Towns.hearAll(x);
         Check.same("taken back ones are none", 2, x.ofRoom(4, 0, 9));
         Check.same("read", 2, x.read(4, 0));
         for (int wrong : WRONG_PLACES) {
@@ -960,28 +933,28 @@ public final class PromiseTest {
     }
 
     private static void promise26Notices() {
-        Roomtalk x = threeIn();
-        word(x, 2, 0);
+        Roomtalk x = Towns.threeIn();
+        Towns.word(x, 2, 0);
         x.say(0, 0, -1, 0, 7, -1);
-        hearAll(x);
+        Towns.hearAll(x);
         x.say(0, 0, 2, 0, -1, -1);
         x.say(2, 0, -1, 7, -1, -1);
-        hearAll(x);
+        Towns.hearAll(x);
         Check.same("called, answered, once; none of one's own", "3 4", x.notices(1));
         Check.same("notices ever", 2, x.house(5));
         x.back(2, 2);
-        hearAll(x);
+        Towns.hearAll(x);
         x.say(4, 0, 2, 0, -1, -1);
-        hearAll(x);
+        Towns.hearAll(x);
         Check.same("answered though taken back", "3 4 7", x.notices(1));
         int gone = x.say(0, 0, -1, 7, -1, -1);
         x.back(0, gone);
-        hearAll(x);
+        Towns.hearAll(x);
         Check.same("as it is heard it is not taken back yet", "3 4 7 8", x.notices(1));
         for (int k = 10; k < 20; k++) {
             x.say(0, 0, -1, 7, 8, -1);
         }
-        hearAll(x);
+        Towns.hearAll(x);
         Check.same("the last 9", "11 12 13 14 15 16 17 18 19", x.notices(1));
         Check.same("the last 9", "11 12 13 14 15 16 17 18 19", x.notices(2));
         Check.same("notices ever", 24, x.house(5));
@@ -992,7 +965,7 @@ public final class PromiseTest {
 
     /** Words 2 to 6: two threads, an edited, a marked, a pinned and one taken back. */
     private static Roomtalk talk() {
-        Roomtalk x = threeIn();
+        Roomtalk x = Towns.threeIn();
         x.say(0, 0, -1, 0, -1, -1);
         x.say(0, 0, -1, 1, 2, -1);
         x.say(0, 0, 2, 3, -1, -1);
@@ -1003,7 +976,7 @@ public final class PromiseTest {
         x.mark(0, 4, 3, true);
         x.pin(0, 4, true);
         x.back(0, 5);
-        hearAll(x);
+        Towns.hearAll(x);
         return x;
     }
 
@@ -1015,16 +988,16 @@ public final class PromiseTest {
                 x.drawn(2, 0, true));
         Check.same("elsewhere", "", x.drawn(2, 1, true));
         // By order, not as they came: member 0 ahead of member 1 at the same height.
-        Roomtalk y = threeIn();
-        word(y, 2, 0);
-        word(y, 0, 1);
-        word(y, 4, 2);
-        hearAll(y);
+        Roomtalk y = Towns.threeIn();
+        Towns.word(y, 2, 0);
+        Towns.word(y, 0, 1);
+        Towns.word(y, 4, 2);
+        Towns.hearAll(y);
         Check.same("by order", "3:0:rain / 2:1:hey / 4:2:bread", y.drawn(5, 0, false));
         // An answer to a void word stands outside.
-        Roomtalk z = threeIn();
+        Roomtalk z = Towns.threeIn();
         z.right(0, 0, 1, 0, false);
-        word(z, 2, 0);
+        Towns.word(z, 2, 0);
         z.say(2, 0, 3, 1, -1, -1);
         z.carryAll(4);
         z.carryAll(2);
@@ -1054,9 +1027,9 @@ public final class PromiseTest {
             Check.fails("was", INDEX, () -> x.was(0, wrong, -1));
         }
         // As it was heard, not as it was made.
-        Roomtalk y = threeIn();
-        word(y, 0, 0);
-        word(y, 2, 1);
+        Roomtalk y = Towns.threeIn();
+        Towns.word(y, 0, 0);
+        Towns.word(y, 2, 1);
         y.carryAll(2);
         Check.same("was", "3:1:rain", y.was(2, 0, 3));
         Check.same("was", "2:0:hey / 3:1:rain", y.was(2, 0, 4));
@@ -1093,10 +1066,10 @@ public final class PromiseTest {
     }
 
     private static void promise30Text() {
-        Roomtalk x = threeIn();
+        Roomtalk x = Towns.threeIn();
         String[] pieces = {"hey", "rain", "bread", "boat", "yes", "no", "@0", "@1", "@2", "@3", "@4", "@5"};
         for (int k = 0; k < pieces.length; k++) {
-            Check.same("text", pieces[k], x.text(0, word(x, 0, k)));
+            Check.same("text", pieces[k], x.text(0, Towns.word(x, 0, k)));
         }
         Check.same("text", "no yes boat", x.text(0, x.say(0, 0, -1, 5, 4, 3)));
         Check.same("text", "poll2", x.text(0, x.poll(0, 0, 2)));
@@ -1112,12 +1085,12 @@ public final class PromiseTest {
     }
 
     private static void promise31Tally() {
-        Roomtalk x = threeIn();
+        Roomtalk x = Towns.threeIn();
         x.poll(0, 0, 2);
         Check.same("tally", "0 0", x.tally(0, 2));
         x.vote(0, 2, 1);
         Check.same("tally", "0 1", x.tally(0, 2));
-        word(x, 0, 0);
+        Towns.word(x, 0, 0);
         Check.fails("no poll", INDEX, () -> x.tally(0, 4));
         Check.fails("not heard", INDEX, () -> x.tally(2, 2));
         Check.fails("no act", INDEX, () -> x.tally(0, 5));
@@ -1131,9 +1104,9 @@ public final class PromiseTest {
         Check.same("found", "2", x.found(2, 0, 0));
         Check.same("found", "3", x.found(2, 0, 2));
         Check.same("taken back", "", x.found(2, 0, 4));
-        Check.same("say", 12, word(x, 2, 1));
-        Check.same("say", 13, word(x, 0, 1));
-        hearAll(x);
+        Check.same("say", 12, Towns.word(x, 2, 1));
+        Check.same("say", 13, Towns.word(x, 0, 1));
+        Towns.hearAll(x);
         Check.same("by order", "3 13 12", x.found(4, 0, 1));
         Check.same("elsewhere", "", x.found(4, 1, 1));
         for (int wrong : WRONG_PLACES) {
@@ -1147,11 +1120,11 @@ public final class PromiseTest {
     }
 
     private static void promise33Order() {
-        Roomtalk x = threeIn();
+        Roomtalk x = Towns.threeIn();
         Check.same("order", "0 1", x.order(2, 0));
         Check.same("bar", 2, x.bar(0, 0, 1, true));
-        Check.same("say", 3, word(x, 2, 0));
-        hearAll(x);
+        Check.same("say", 3, Towns.word(x, 2, 0));
+        Towns.hearAll(x);
         Check.same("void", "0 1 2 3!", x.order(4, 0));
         Check.same("void", "0 1 2 3!", x.order(2, 0));
         Check.same("void acts", 1, x.ofRoom(4, 0, 7));
@@ -1165,14 +1138,14 @@ public final class PromiseTest {
     }
 
     private static void promise34Summary() {
-        Roomtalk x = threeIn();
+        Roomtalk x = Towns.threeIn();
         x.enter(4, 1);
-        hearAll(x);
-        word(x, 0, 0);
-        word(x, 2, 0);
-        word(x, 2, 0);
+        Towns.hearAll(x);
+        Towns.word(x, 0, 0);
+        Towns.word(x, 2, 0);
+        Towns.word(x, 2, 0);
         x.say(3, 1, -1, 0, -1, -1);
-        hearAll(x);
+        Towns.hearAll(x);
         Check.same("summary", "0:3@0@1; 1:1@1", x.summary(4));
         Check.same("summary", "0:1@0", x.summary(2));
         Check.same("summary", "0:2@1", x.summary(0));
@@ -1202,7 +1175,7 @@ public final class PromiseTest {
     }
 
     private static void promise36Rights() {
-        Roomtalk x = threeIn();
+        Roomtalk x = Towns.threeIn();
         x.right(0, 0, 5, 4, true);
         x.right(0, 0, 5, 0, false);
         Check.same("rights", 16, x.rights(0, 0, 5));
@@ -1220,7 +1193,7 @@ public final class PromiseTest {
     }
 
     private static void promise37Export() {
-        Roomtalk x = threeIn();
+        Roomtalk x = Towns.threeIn();
         x.tick(12);
         x.say(0, 0, -1, 0, 1, -1);
         x.say(0, 0, 2, 3, -1, -1);
@@ -1254,9 +1227,9 @@ public final class PromiseTest {
     }
 
     private static void promise39Way() {
-        Roomtalk x = threeIn();
-        word(x, 2, 0);
-        word(x, 0, 1);
+        Roomtalk x = Towns.threeIn();
+        Towns.word(x, 2, 0);
+        Towns.word(x, 0, 1);
         Check.same("way", "2 3", x.way(1));
         Check.same("way", "2", x.way(0));
         Check.same("way", "3", x.way(2));
@@ -1267,10 +1240,10 @@ public final class PromiseTest {
     }
 
     private static void promise40Waiting() {
-        Roomtalk x = threeIn();
-        word(x, 0, 0);
-        word(x, 0, 1);
-        word(x, 0, 1);
+        Roomtalk x = Towns.threeIn();
+        Towns.word(x, 0, 0);
+        Towns.word(x, 0, 1);
+        Towns.word(x, 0, 1);
         x.carry(4, 2, false);
         x.carry(4, 1, false);
         Check.same("waiting", "3 4", x.waiting(4));
@@ -1281,9 +1254,9 @@ public final class PromiseTest {
     }
 
     private static void promise41OfPlace() {
-        Roomtalk x = threeIn();
-        word(x, 0, 0);
-        word(x, 0, 1);
+        Roomtalk x = Towns.threeIn();
+        Towns.word(x, 0, 0);
+        Towns.word(x, 0, 1);
         x.carry(4, 1, true);
         x.carry(4, 1, true);
         x.off(4, true);
@@ -1308,7 +1281,7 @@ public final class PromiseTest {
     }
 
     private static void promise42OfAct() {
-        Roomtalk x = threeIn();
+        Roomtalk x = Towns.threeIn();
         x.tick(3);
         x.say(0, 0, -1, 1, 2, 3);
         x.edit(0, 2, 4, 5);
@@ -1343,12 +1316,12 @@ public final class PromiseTest {
     }
 
     private static void promise43House() {
-        Roomtalk x = botIn();
+        Roomtalk x = Towns.botIn();
         x.rule(4, 0, 6);
         x.sit(1, 1);
         x.tick(9);
         x.part();
-        word(x, 0, 0);
+        Towns.word(x, 0, 0);
         x.carryAll(8);
         x.carryAll(0);
         x.knock();
@@ -1372,16 +1345,16 @@ public final class PromiseTest {
     private static void promise45IsSound() {
         Roomtalk x = talk();
         Check.same("sound", true, x.isSound());
-        word(x, 0, 0);
-        word(x, 0, 0);
+        Towns.word(x, 0, 0);
+        Towns.word(x, 0, 0);
         x.carry(2, 1, true);
         Check.same("sound", true, x.isSound());
     }
 
     private static void promise46Digest() {
-        Roomtalk x = botIn();
+        Roomtalk x = Towns.botIn();
         x.rule(4, 0, 6);
-        word(x, 0, 0);
+        Towns.word(x, 0, 0);
         x.carry(8, 0, true);
         x.carryAll(2);
         x.knock();

@@ -29,21 +29,15 @@ public final class SoundTest {
         Roomtalk x = new Roomtalk();
         x.enter(2, 0);
         x.enter(10, 0);
-        hearAll(x);
+        Towns.hearAll(x);
         for (int k = 2; k < 6; k++) {
             x.say(0, 0, k == 2 ? -1 : k - 1, k, -1, -1);
         }
-        hearAll(x);
+        Towns.hearAll(x);
         x.say(0, 0, -1, 0, -1, -1);
         x.say(4, 2, -1, 0, -1, -1);
         x.say(4, 2, 7, 0, -1, -1);
         return x;
-    }
-
-    private static void hearAll(Roomtalk x) {
-        for (int place = 0; place < 12; place++) {
-            x.carryAll(place);
-        }
     }
 
     private static void unsound(String what, Consumer<Roomtalk> spoil) {
