@@ -40,6 +40,8 @@ public final class HearingTest {
         foundInTexts();
         factsOfWords();
         factsOfRooms();
+        onePlaceAfterAnother();
+        soundThoughHeardOtherwise();
         housesAreApart();
         knocks();
         digestsWrapAround();
@@ -159,6 +161,15 @@ public final class HearingTest {
         x.carryAll(5);
         Check.same("it stays, though it is void then", "3", x.notices(2));
         Check.same("void at both", x.order(4, 0), x.order(5, 0));
+        Roomtalk y = new Roomtalk();
+        Check.same("act 0 is a word", 0, Towns.word(y, 0, 0));
+        y.enter(2, 0);
+        Towns.hearAll(y);
+        y.keyword(0, 0);
+        Check.same("SPEAK is taken", 2, y.right(0, 0, 1, 0, false));
+        Check.same("it has the keyword, answers and calls", 3, y.say(2, 0, 0, 0, 6, -1));
+        Towns.hearAll(y);
+        Check.same("but is void", "", y.notices(0));
     }
 
     private static void noticesOfAnswers() {
@@ -560,6 +571,8 @@ public final class HearingTest {
         x.right(0, 0, 4, 0, false);
         Check.same("both by one call", 2, x.carryAll(8));
         Check.same("it has no right by then", 0, x.house(6));
+        Check.same("the next word", 3, Towns.word(x, 0, 0));
+        Check.same("is not aged by what came to nothing", 0, x.ofWord(0, 3, 8));
         Roomtalk y = Towns.botIn();
         y.rule(4, 0, 1);
         Towns.word(y, 0, 0);
@@ -691,6 +704,8 @@ public final class HearingTest {
         String two = "0,0,1,0,-1,-1,-1,-1;1,0,2,0,-1,-1,-1,-1;";
         Check.same("where that is not heard", two + "2,2,1,0,-1,5,4,3;4,3,1,0,2,1,1,-1", x.export(3, 0));
         Check.same("where that is not heard", "2:1:rain rain*", x.again(3, 0));
+        Check.same("where it is", "2:1:-", x.drawn(2, 0, false));
+        Check.same("where that is not heard, asked behind it", "2:1:rain rain*", x.again(3, 0));
         Towns.hearAll(x);
         Check.same("the edit is void", "0 1 2 3 4!", x.order(0, 0));
         Check.same("its pieces are not told either", two + "2,2,1,0,-1,-1,-1,-1;3,4,1,0,2,-1,-1,-1;4,3,1,0,2,-1,-1,-1",
@@ -835,6 +850,42 @@ public final class HearingTest {
         for (int what = 0; what < 10; what++) {
             Check.same("room " + what, due[what], x.ofRoom(4, 0, what));
         }
+    }
+
+    /** What was asked of one place or room leaves nothing in what is asked of the next one. */
+    private static void onePlaceAfterAnother() {
+        Roomtalk x = Court.sitting();
+        x.call(0, 0, 5);
+        x.bar(0, 0, 3, true);
+        x.slow(0, 0, 5, 100);
+        x.lock(0, 0, true);
+        Towns.hearAll(x);
+        x.right(0, 0, 1, 0, false);
+        Check.same("void where that is heard", 19, Towns.word(x, 2, 0));
+        x.carryAll(0);
+        int[] due = {2, 0, 0, 0, 0, 0, 0, 0, 0, 0};
+        for (int what = 0; what < 10; what++) {
+            x.ofRoom(0, 0, what);
+            Check.same("another room", due[what], x.ofRoom(0, 1, what));
+        }
+        String order = x.order(0, 0);
+        Check.same("void", true, order.endsWith(" 18 19!"));
+        Check.same("not void", true, x.order(2, 0).endsWith(" 17 19"));
+        Check.same("void", 1, x.ofRoom(0, 0, 7));
+        Check.same("not void", 0, x.ofRoom(2, 0, 7));
+        Check.same("all rights", 63, x.rights(0, 0, 0));
+        Check.same("rights of the other room", 1, x.rights(0, 1, 0));
+    }
+
+    private static void soundThoughHeardOtherwise() {
+        Roomtalk x = Towns.threeIn();
+        Towns.word(x, 0, 0);
+        Towns.word(x, 1, 1);
+        Towns.word(x, 2, 2);
+        Towns.word(x, 3, 3);
+        Check.same("as many acts", x.ofPlace(0, 0), x.ofPlace(3, 0));
+        Check.same("but other ones", "2:0:hey 4:1:bread", x.drawn(0, 0, false) + " " + x.drawn(2, 0, false));
+        Check.same("sound", true, x.isSound());
     }
 
     private static void housesAreApart() {

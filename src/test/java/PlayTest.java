@@ -123,6 +123,18 @@ public final class PlayTest {
             Check.same("order", "0 1 5 3 4 2 6", x.order(place, 0));
             Check.same("drawn", "5:0:boat / 3:1:rain / 4:1:bread / 2:2:hey / 6:0:yes", x.drawn(place, 0, false));
         }
+        // Without causes, too: who enters at a half that has none of the others.
+        Roomtalk z = new Roomtalk();
+        z.sit(1, 1);
+        z.part();
+        Check.same("member 1", 0, z.say(2, 1, -1, 0, -1, -1));
+        Check.same("member 0", 1, z.enter(0, 1));
+        Check.same("height", 0, z.ofAct(0, 4) + z.ofAct(1, 4));
+        Check.same("one to each half", 2, z.rejoin(false));
+        Towns.hearAll(z);
+        Check.same("order", "1 0", z.order(0, 1));
+        Check.same("order", "1 0", z.order(3, 1));
+
         // Numbers, not texts: 9 is ahead of 10 and of 100.
         Roomtalk y = new Roomtalk();
         y.carryAll(1);
@@ -677,7 +689,7 @@ public final class PlayTest {
         return x.order(0, 0);
     }
 
-    /** Two are let in ten ticks: so long behind act 1 comes act 3, so long behind that act 4, which stands ahead of 3. */
+    /** Two are let in ten ticks: act 3 comes so long behind act 1, and behind that act 4, which stands ahead of 3. */
     private static String between(int before, int behind) {
         Roomtalk x = new Roomtalk();
         x.slow(0, 0, 2, 10);

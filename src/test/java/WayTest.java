@@ -9,6 +9,7 @@ public final class WayTest {
         notToWhoIsOff();
         notToWhoIsNotIn();
         toWhoWasInAheadOfIt();
+        leavingComesToTheOtherPlace();
         catchUpRoomByRoomByOrder();
         nothingTwice();
         whatWasPutFirstIsFirst();
@@ -26,6 +27,8 @@ public final class WayTest {
         sitTakesWhatWasHeard();
         sitTakesNoMoreThanWasHeard();
         sitMakesThatHalfCatchUp();
+        sitBringsWhoIsIn();
+        sitAndRejoinOfAFullHouse();
         rejoinWithNothingToJoin();
         rejoinOfBoth();
         enterByTheHalf();
@@ -102,6 +105,16 @@ public final class WayTest {
         ways("but no more", y, " / 2 3 / 2 / 2 / 2 3 / 2 3 /  /  /  /  /  / ");
         Check.same("say, as one was in by that place", 4, Towns.word(y, 2, 0));
         ways("not to one's own place", y, "4 / 2 3 4 / 2 / 2 / 2 3 4 / 2 3 4 /  /  /  /  /  / ");
+    }
+
+    private static void leavingComesToTheOtherPlace() {
+        for (int place = 0; place < Towns.PLACES; place++) {
+            Roomtalk x = Towns.allIn();
+            int other = place % 2 == 0 ? place + 1 : place - 1;
+            Check.same("leave", 5, x.leave(place, 0));
+            Check.same("the other place", "5", x.way(other));
+            Check.same("not one's own", "", x.way(place));
+        }
     }
 
     private static void catchUpRoomByRoomByOrder() {
@@ -288,6 +301,7 @@ public final class WayTest {
         Check.refused("it makes nothing", x, -1, () -> Towns.word(x, 2, 0));
         Check.same("say", 4, Towns.word(x, 0, 0));
         Check.same("nothing is put there", "2 3", x.way(2));
+        Check.refused("off again, it catches up with nothing", x, 1, () -> x.off(2, true));
         Check.same("it may arrive, and wait", 0, x.carry(2, 1, true));
         Check.same("it may arrive, and be doubled", 0, x.carry(2, 1, false));
         Check.same("doubled", 1, x.ofPlace(2, 3));
@@ -419,6 +433,50 @@ public final class WayTest {
         ways("that half alone, and who sits there now", x, "3 / 2 3 / 2 / 2 / 2 / 3 /  /  /  /  /  / ");
         Check.same("member 1, which sits at half 0, heard neither", 0, x.sit(1, 1));
         ways("it catches up there", x, "3 / 2 3 / 2 3 / 2 3 / 2 / 3 /  /  /  /  /  / ");
+    }
+
+    private static void sitBringsWhoIsIn() {
+        Roomtalk x = Towns.threeIn();
+        x.part();
+        Check.same("enter at half 0", 2, x.enter(6, 0));
+        x.carryAll(0);
+        Check.same("say at half 0", 3, Towns.word(x, 0, 0));
+        x.carry(6, 3, false);
+        Check.same("sit, with nothing heard", 0, x.sit(3, 1));
+        Check.same("say at half 0", 4, Towns.word(x, 0, 0));
+        Check.same("not in by half 1", "0 1 2", x.way(6));
+        Check.same("three come along", 3, x.sit(0, 1));
+        Check.same("in by half 1 then", "0 1 2 4", x.way(6));
+        Check.same("and so for what comes there", 5, Towns.word(x, 0, 0));
+        Check.same("way", "0 1 2 4 5", x.way(6));
+        Roomtalk y = Towns.threeIn();
+        y.sit(1, 1);
+        y.part();
+        Check.same("bar at half 0", 2, y.bar(0, 0, 1, true));
+        Check.same("it comes along", 1, y.sit(0, 1));
+        Check.same("in by half 1 no more", "", y.way(2));
+        Check.same("and so for what comes there", 3, Towns.word(y, 0, 0));
+        Check.same("way", "", y.way(2));
+    }
+
+    private static void sitAndRejoinOfAFullHouse() {
+        for (int acts : new int[] {63, 64, 65, 119, 120}) {
+            Roomtalk x = new Roomtalk();
+            x.part();
+            Towns.fill(x, acts);
+            Check.same("half 1", 0, x.house(3));
+            Check.same("all come along", acts, x.sit(0, 1));
+            Check.same("half 1", acts, x.house(3));
+            Check.same("half 0", acts, x.house(2));
+            Check.same("nothing more", 0, x.rejoin(false));
+            Roomtalk y = new Roomtalk();
+            y.part();
+            Towns.fill(y, acts);
+            Check.same("all come to half 1", acts, y.rejoin(true));
+            Check.same("half 1", acts, y.house(3));
+            Check.same("half 0", acts, y.house(2));
+            Check.same("sound", true, y.isSound());
+        }
     }
 
     private static void rejoinWithNothingToJoin() {
