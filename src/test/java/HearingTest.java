@@ -886,6 +886,11 @@ public final class HearingTest {
         Check.same("as many acts", x.ofPlace(0, 0), x.ofPlace(3, 0));
         Check.same("but other ones", "2:0:hey 4:1:bread", x.drawn(0, 0, false) + " " + x.drawn(2, 0, false));
         Check.same("sound", true, x.isSound());
+        Roomtalk y = new Roomtalk();
+        Towns.word(y, 0, 0);
+        Towns.word(y, 1, 1);
+        Check.same("one each, and another one", "0 / 1", y.order(0, 0) + " / " + y.order(1, 0));
+        Check.same("sound", true, y.isSound());
     }
 
     private static void housesAreApart() {

@@ -1,4 +1,6 @@
 import java.io.IOException;
+import java.io.PrintWriter;
+import java.io.StringWriter;
 import java.lang.reflect.Constructor;
 import java.lang.reflect.Field;
 import java.lang.reflect.Method;
@@ -8,10 +10,13 @@ import java.nio.file.Path;
 import java.util.ArrayList;
 import java.util.Arrays;
 import java.util.List;
+import java.util.Map;
 import java.util.Set;
+import java.util.TreeMap;
 import java.util.TreeSet;
 import java.util.regex.Matcher;
 import java.util.regex.Pattern;
+import java.util.spi.ToolProvider;
 import java.util.stream.Collectors;
 
 /** Holds the source and the compiled class against the rules of ../shared/LANGUAGE.md that can be told by looking. */
@@ -42,6 +47,7 @@ public final class LanguageTest {
             "\\bdouble\\b", "\\bfloat\\b", "\\.equals\\(", "\\bhashCode\\b", "\\bvolatile\\b", "\\bnative\\b",
             "\\w+Exact\\b", "\\bString\\.(valueOf|format)\\b", "\"\\s*\\+", "\\+\\s*\"", "\\bObject\\b", "\\bvar\\b");
 
+    private static final int MOST_DEPTH = 8;
     private static final Set<String> LIBRARY = Set.of("Integer.bitCount", "Long.bitCount", "Math.max", "Math.abs");
 
     private LanguageTest() {
@@ -56,6 +62,7 @@ public final class LanguageTest {
         rules6And10Words(bare);
         rule4Library(bare);
         rule11Sizes(whole);
+        rule11Depth();
         Check.finish("LanguageTest");
     }
 
@@ -148,6 +155,52 @@ public final class LanguageTest {
                     last++;
                 }
                 Check.same("length of the method in line " + (k + 1), true, last - k + 1 <= MOST_LINES);
+            }
+        }
+    }
+
+    /** Calls as javap tells them, those of the library counted: none comes back to itself, none goes too deep. */
+    private static void rule11Depth() {
+        Map<String, Set<String>> calls = new TreeMap<>();
+        for (Class<?> one : classes()) {
+            addCalls(calls, one.getName());
+        }
+        for (String method : calls.keySet()) {
+            int depth = depthOf(method, calls, MOST_DEPTH + 1);
+            Check.same("calls of " + method + " go at most eight deep", true, depth <= MOST_DEPTH);
+        }
+        Check.same("the methods were found", true, calls.size() > 100);
+        Check.same("the calls were found", true, depthOf("Roomtalk.say", calls, MOST_DEPTH + 1) > 5);
+    }
+
+    private static int depthOf(String method, Map<String, Set<String>> calls, int most) {
+        int deepest = 0;
+        if (most > 0) {
+            for (String called : calls.getOrDefault(method, Set.of())) {
+                deepest = Math.max(deepest, depthOf(called, calls, most - 1));
+            }
+        }
+        return deepest + 1;
+    }
+
+    private static void addCalls(Map<String, Set<String>> calls, String owner) {
+        StringWriter told = new StringWriter();
+        PrintWriter out = new PrintWriter(told);
+        String path = Roomtalk.class.getProtectionDomain().getCodeSource().getLocation().getPath();
+        ToolProvider.findFirst("javap").orElseThrow().run(out, out, "-c", "-p", "-cp", path, owner);
+        Pattern head = Pattern.compile("^  \\S.*?([\\w$]+)\\(.*\\).*;$");
+        Pattern call = Pattern.compile("// (?:Interface)?Method (?:([\\w/$]+)\\.)?\"?([\\w<>$]+)\"?:");
+        String method = owner;
+        for (String line : told.toString().split("\n")) {
+            Matcher begun = head.matcher(line);
+            Matcher called = call.matcher(line);
+            if (begun.matches()) {
+                boolean isMade = owner.endsWith(begun.group(1));
+                method = owner + "." + (isMade ? "<init>" : begun.group(1));
+                calls.computeIfAbsent(method, name -> new TreeSet<>());
+            } else if (called.find()) {
+                String other = called.group(1) == null ? owner : called.group(1);
+                calls.get(method).add(other + "." + called.group(2));
             }
         }
     }

@@ -22,6 +22,11 @@ public final class SoundTest {
         unsound("drawn otherwise, as long", x -> tell(of(placeOf(x, 3), "heard"), "remove", 12));
         unsound("an export that is not read again as it is drawn",
                 x -> Array.set(of(of(x, "otherView"), "words"), 2, null));
+        unsound("that of the first place alone", x -> Array.set(of(of(x, "otherView"), "words"), 13, null));
+        unsound("the first place alone drawn otherwise", x -> {
+            x.carryAll(1);
+            tell(of(placeOf(x, 0), "heard"), "add", Towns.word(x, 2, 0));
+        });
         for (int room = 0; room < Towns.ROOMS; room++) {
             int one = room;
             unsound("an act ahead of its causes by order", x -> swap(element(of(x, "orders"), one), 0, 1));
