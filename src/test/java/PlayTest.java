@@ -535,6 +535,8 @@ public final class PlayTest {
         }
         Check.same("called all the same", 63, x.ofRoom(0, 0, 1));
         Check.refused("but barred", x, -7, () -> x.enter(4, 0));
+        Check.same("call of who is barred", x.house(1), x.call(0, 0, 2));
+        Check.same("barred all the same", 62, x.ofRoom(0, 0, 2));
         Check.same("no more barred", x.house(1), x.bar(0, 0, 2, false));
         Check.same("again", x.house(1), x.bar(0, 0, 2, false));
         Check.same("barred", 58, x.ofRoom(0, 0, 2));

@@ -27,6 +27,7 @@ public final class SoundTest {
             x.carryAll(1);
             tell(of(placeOf(x, 0), "heard"), "add", Towns.word(x, 2, 0));
         });
+        soundWhileParted();
         for (int room = 0; room < Towns.ROOMS; room++) {
             int one = room;
             unsound("an act ahead of its causes by order", x -> swap(element(of(x, "orders"), one), 0, 1));
@@ -74,6 +75,26 @@ public final class SoundTest {
         spoil.accept(x);
         Check.same(what, false, x.isSound());
         Check.same("the digest tells of it: " + what, false, before == x.digest());
+    }
+
+    /** A half need not have what the other one has. */
+    private static void soundWhileParted() {
+        Roomtalk x = Towns.threeIn();
+        x.sit(1, 1);
+        x.part();
+        for (int k = 0; k < 3; k++) {
+            Towns.word(x, 0, 0);
+            Towns.word(x, 2, 0);
+        }
+        Check.same("half 0 alone has 2, 4 and 6", 5, x.house(2));
+        Check.same("half 1 alone has 3, 5 and 7", 5, x.house(3));
+        Check.same("parted", true, x.isSound());
+        tell(of(of(x, "firstHalf"), "acts"), "remove", 6);
+        Check.same("half 0 without its last act", true, x.isSound());
+        tell(of(of(x, "secondHalf"), "acts"), "remove", 7);
+        Check.same("half 1 without its last act", true, x.isSound());
+        tell(of(of(x, "secondHalf"), "acts"), "remove", 3);
+        Check.same("half 1 lacks a cause of the act 5", false, x.isSound());
     }
 
     private static Object placeOf(Roomtalk x, int number) {

@@ -26,6 +26,7 @@ public final class WayTest {
         sitWithNothingToTake();
         sitTakesWhatWasHeard();
         sitTakesNoMoreThanWasHeard();
+        sitAgainTakesNothing();
         sitMakesThatHalfCatchUp();
         sitBringsWhoIsIn();
         sitAndRejoinOfAFullHouse();
@@ -420,6 +421,16 @@ public final class WayTest {
         Check.same("sit back", 0, x.sit(1, 0));
         Check.same("now both were heard", 2, x.sit(1, 1));
         Check.same("half 1", 4, x.house(3));
+    }
+
+    private static void sitAgainTakesNothing() {
+        Roomtalk x = Towns.threeIn();
+        x.part();
+        Check.same("say", 2, Towns.word(x, 0, 0));
+        Check.same("sit, with nothing heard of it", 0, x.sit(1, 1));
+        Check.same("it arrives there", 1, x.carryAll(2));
+        Check.refused("it sits there already, and brings nothing", x, 0, () -> x.sit(1, 1));
+        Check.same("half 1", 2, x.house(3));
     }
 
     private static void sitMakesThatHalfCatchUp() {
